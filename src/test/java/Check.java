@@ -2,19 +2,37 @@
 final class Check {
     private int wrong = 0;
     private int asked = 0;
+    private String sentence = "";
+
+    /** Names the sentence of the document by which the answers from now on are due. */
+    void says(String quoted) {
+        sentence = "\"" + quoted + "\": ";
+    }
 
     void due(String what, long got, long want) {
         asked++;
         if (got != want) {
             wrong++;
             if (wrong <= 50) {
-                System.out.println(what + " answered " + got + ", due is " + want);
+                System.out.println(sentence + what + " answered " + got + ", due is " + want);
             }
         }
     }
 
     void isTrue(String what, boolean holds) {
         due(what, holds ? 1 : 0, 1);
+    }
+
+    /** A refusal: STATE, and the reason behind it. */
+    void refused(String what, ClockPlanner x, long got, int reason) {
+        due(what, got, ClockPlanner.STATE);
+        due(what + ", its reason", x.reason(), reason);
+    }
+
+    /** A path of which a part is refused, and the reason behind it. */
+    void refusedPart(String text, ClockPlanner x, int part, int reason) {
+        due("lay of " + text, lay(x, text), -200 - part);
+        due("lay of " + text + ", its reason", x.reason(), reason);
     }
 
     boolean allRight() {
