@@ -5,6 +5,7 @@ public final class LeafTest {
 
     public static void main(String[] args) {
         leafAtFirst();
+        usedPlaces();
         groupsOfLeaves();
         contentAtTheBounds();
         contentByFractions();
@@ -56,6 +57,35 @@ public final class LeafTest {
         x.remove(1);
         x.leaf(0, 0, 0, 0, 1);
         check.due("one in a used place requests", x.ofLeaf(2, 3), 1);
+    }
+
+    private static void usedPlaces() {
+        check.says("a pad from 0 to 99, which is 0 at first");
+        ClockPlanner x = delayed(30, 0);
+        x.limit(0, 0);
+        check.due("mend(0)", x.mend(0), 30);
+        check.due("remove(2)", x.remove(2), 2);
+        check.due("pads", x.account(9), 0);
+        check.due("a leaf in its place", x.leaf(0, 0, 0, 0, 1), 2);
+        check.due("its pad", x.ofLeaf(2, 4), 0);
+        check.due("its arrival", x.node(2, 7), 0);
+        check.due("mend(0)", x.mend(0), 30);
+        check.due("remove(2)", x.remove(2), 2);
+        check.due("a buffer in its place", x.add(0, 4, 5), 2);
+        check.due("its arrival", x.node(2, 7), 5);
+        check.due("pads", x.account(9), 0);
+        check.due("a leaf below it", x.leaf(2, 1, 0, 0, 1), 3);
+        check.due("its arrival", x.node(3, 7), 5);
+        check.says("6 a leaf that is content would not be so any more");
+        ClockPlanner gone = new ClockPlanner();
+        gone.leaf(0, 0, 1000, 1000, 1);
+        gone.leaf(0, 0, 1000, 1000, 1);
+        gone.remove(2);
+        check.refused("one is left", gone, gone.source(999), 6);
+        gone.remove(1);
+        check.due("none is left", gone.source(999), 1000);
+        gone.add(0, 4, 0);
+        check.due("nor in its place", gone.source(998), 999);
     }
 
     private static void groupsOfLeaves() {

@@ -28,6 +28,7 @@ public final class PathTest {
         partsAreCounted();
         firstPartThatIsRefused();
         tapeIsEmptiedAlways();
+        bytesOfEarlierTexts();
         wrongTextsChangeNothing();
         check.end();
     }
@@ -369,6 +370,17 @@ public final class PathTest {
             check.due("lay of nothing", x.lay(), -100);
             check.due("feed from the beginning", x.feed(5, '0', '/', '2', '*', '3'), 5);
             check.isTrue("lay of what was fed then", x.lay() >= 0);
+        }
+    }
+
+    private static void bytesOfEarlierTexts() {
+        check.says("or its length if it ends too early");
+        for (int length = 0; length < WHOLE.length(); length++) {
+            ClockPlanner x = new ClockPlanner();
+            String text = WHOLE.substring(0, length);
+            check.due("the whole text", Check.lay(x, WHOLE), 5);
+            x.back();
+            check.due("lay of '" + text + "' behind it", Check.lay(x, text), modelled(text));
         }
     }
 
