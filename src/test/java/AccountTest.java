@@ -7,6 +7,7 @@ public final class AccountTest {
         parents();
         children();
         requestsBelow();
+        numbersOfALeaf();
         openGatesThen();
         nodesThatRemain();
         rankedByRate();
@@ -102,6 +103,24 @@ public final class AccountTest {
         for (int n = 0; n < 5; n++) {
             check.due("leaves below " + n, x.node(n, 9), leaves[n]);
             check.due("those that request", x.node(n, 10), asking[n]);
+        }
+    }
+
+    private static void numbersOfALeaf() {
+        check.says("0 the low bound; 1 the high bound; 2 the priority; 3: 1 if it requests, otherwise 0; 4 the pad; 5: 1 if "
+                + "it is content, otherwise 0");
+        ClockPlanner x = new ClockPlanner();
+        x.leaf(0, 0, 0, 4000000, 1);
+        x.leaf(0, 0, 4000000, 4000000, 9);
+        x.set(1, 0, 99);
+        x.limit(0, 0);
+        x.mend(0);
+        x.request(2, 0);
+        int[] first = {0, 4000000, 1, 1, 0, 1};
+        int[] second = {4000000, 4000000, 9, 0, 99, 0};
+        for (int what = 0; what <= 5; what++) {
+            check.due("ofLeaf(1, " + what + ")", x.ofLeaf(1, what), first[what]);
+            check.due("ofLeaf(2, " + what + ")", x.ofLeaf(2, what), second[what]);
         }
     }
 

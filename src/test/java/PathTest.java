@@ -15,6 +15,8 @@ public final class PathTest {
         everyByteAtEveryPlace();
         bytesThatAreLeftOrPutIn();
         texts40BytesLong();
+        partsThatCanBeLeftOut();
+        partsThatCanBeRepeated();
         beginsAtTheFirstNumber();
         childOfThisKindAndNumber();
         childAsNodeTellsItBy2();
@@ -163,6 +165,40 @@ public final class PathTest {
         wrong("0".repeat(40), 7);
         wrong("0000000+0000000+0000000+0000000+00000000", 39);
         right("0000000+0000000+0000000+0000000+0000000", 4);
+    }
+
+    private static void partsThatCanBeLeftOut() {
+        check.says("where brackets mean that the part can be left out and braces that it can be repeated or left out");
+        right("0", 0);
+        right("0/1", 1);
+        right("0.0:0-0", 1);
+        right("0/1.0:0-0", 2);
+        wrong("", 0);
+        wrong("/1", 0);
+        wrong(".0:0-0", 0);
+        wrong("0:0-0", 1);
+        wrong("0.:0-0", 2);
+        wrong("0.0", 3);
+        wrong("0.00-0", 3);
+        wrong("0.0:-0", 4);
+        wrong("0.0:0", 5);
+        wrong("0.0:0.0", 5);
+    }
+
+    private static void partsThatCanBeRepeated() {
+        check.says("where brackets mean that the part can be left out and braces that it can be repeated or left out");
+        for (String step : new String[] {"/1", "*1", "g0", "+1"}) {
+            for (int times = 0; times <= 6; times++) {
+                right("0" + step.repeat(times), times);
+                if (times < 6) {
+                    right("0" + step.repeat(times) + ".0:0-0", times + 1);
+                }
+            }
+            wrong("0.0:0-0" + step, 7);
+        }
+        wrong("0.0:0-0.0:0-0", 7);
+        wrong("00.0:0-0.", 8);
+        wrong("0 ", 1);
     }
 
     private static void beginsAtTheFirstNumber() {

@@ -52,25 +52,6 @@ public final class PromiseTest {
         check.end();
     }
 
-    /** A source, a chain of buffers down to depth 6, and nothing else. */
-    private static ClockPlanner chain() {
-        ClockPlanner x = new ClockPlanner();
-        for (int i = 0; i < 6; i++) {
-            x.add(i, 4, 0);
-        }
-        return x;
-    }
-
-    /** The source, one gate with a rule, and leaves of group 0 below it. */
-    private static ClockPlanner gated(int rule, int leaves) {
-        ClockPlanner x = new ClockPlanner();
-        x.add(0, 3, rule);
-        for (int i = 0; i < leaves; i++) {
-            x.leaf(1, 0, 0, 4000000, 1);
-        }
-        return x;
-    }
-
     private static void newObject() {
         promise = 1;
         ClockPlanner x = new ClockPlanner();
@@ -133,7 +114,7 @@ public final class PromiseTest {
         refused("add(-1, ..)", x, x.add(-1, 1, 1), 1);
         x.leaf(0, 0, 0, 0, 1);
         refused("add below a leaf", x, x.add(9, 1, 1), 1);
-        ClockPlanner deep = chain();
+        ClockPlanner deep = Twins.made(Plans::chain);
         refused("add(6, ..)", deep, deep.add(6, 1, 0), 2);
         due("add(5, ..)", deep.add(5, 1, 2), 7);
         ClockPlanner fast = new ClockPlanner();
@@ -167,7 +148,7 @@ public final class PromiseTest {
         due("it requests", x.ofLeaf(1, 3), 1);
         due("its pad", x.ofLeaf(1, 4), 0);
         due("its group", x.node(1, 2), 3);
-        ClockPlanner deep = chain();
+        ClockPlanner deep = Twins.made(Plans::chain);
         refused("leaf(6, ..)", deep, deep.leaf(6, 0, 1, 0, 1), 2);
         due("leaf(5, ..)", deep.leaf(5, 0, 0, 0, 1), 7);
         ClockPlanner many = new ClockPlanner();
@@ -241,7 +222,7 @@ public final class PromiseTest {
 
     private static void request() {
         promise = 7;
-        ClockPlanner x = gated(2, 2);
+        ClockPlanner x = Plans.gated(2, 2);
         x.add(0, 3, 0);
         x.add(0, 3, 3);
         due("no leaf", x.request(1, 0), -1);
@@ -255,7 +236,7 @@ public final class PromiseTest {
         due("ofLeaf", x.ofLeaf(3, 3), 0);
         int[][] open = {{1, 1, 1, 1}, {0, 0, 0, 0}, {0, 1, 1, 1}, {0, 0, 0, 1}, {0, 0, 1, 1}};
         for (int rule = 0; rule <= 4; rule++) {
-            ClockPlanner y = gated(rule, 3);
+            ClockPlanner y = Plans.gated(rule, 3);
             for (int n = 2; n <= 4; n++) {
                 y.request(n, 0);
             }
@@ -264,10 +245,10 @@ public final class PromiseTest {
                 due("rule " + rule + " with " + (n - 1) + " of 3", y.request(n, 1), open[rule][n - 1]);
                 due("the leaf runs", y.node(n, 6), open[rule][n - 1]);
             }
-            ClockPlanner none = gated(rule, 0);
+            ClockPlanner none = Plans.gated(rule, 0);
             due("rule " + rule + " without leaves", none.account(8), rule == 0 ? 1 : 0);
         }
-        ClockPlanner even = gated(4, 2);
+        ClockPlanner even = Plans.gated(4, 2);
         due("as many as not", even.request(2, 0), 0);
         ClockPlanner nested = new ClockPlanner();
         nested.add(0, 3, 1);
@@ -279,7 +260,7 @@ public final class PromiseTest {
 
     private static void limit() {
         promise = 8;
-        ClockPlanner x = gated(0, 2);
+        ClockPlanner x = Plans.gated(0, 2);
         x.set(2, 0, 20);
         due("group 4", x.limit(4, 1000), -1);
         due("group -1", x.limit(-1, 0), -1);
@@ -321,7 +302,7 @@ public final class PromiseTest {
 
     private static void mend() {
         promise = 10;
-        ClockPlanner x = gated(0, 3);
+        ClockPlanner x = Plans.gated(0, 3);
         x.add(0, 3, 1);
         x.leaf(5, 0, 0, 0, 1);
         x.set(2, 0, 50);
@@ -340,7 +321,7 @@ public final class PromiseTest {
         due("pad of one that does not run", x.ofLeaf(6, 4), 0);
         due("skew", x.ofGroup(0, 0), 5);
         due("empty group", x.mend(2), 0);
-        ClockPlanner y = gated(0, 2);
+        ClockPlanner y = Plans.gated(0, 2);
         y.set(2, 0, 99);
         y.limit(0, 0);
         due("a pad of 99", y.mend(0), 99);
@@ -354,7 +335,7 @@ public final class PromiseTest {
 
     private static void shed() {
         promise = 11;
-        ClockPlanner x = gated(2, 2);
+        ClockPlanner x = Plans.gated(2, 2);
         x.set(1, 1, 5);
         x.set(0, 1, 1);
         due("budget -1", x.shed(-1), -2);
@@ -373,7 +354,7 @@ public final class PromiseTest {
 
     private static void wouldShed() {
         promise = 12;
-        ClockPlanner x = gated(3, 3);
+        ClockPlanner x = Plans.gated(3, 3);
         x.set(1, 1, 5);
         due("budget -1", x.wouldShed(-1), -2);
         due("budget 2000000001", x.wouldShed(2000000001), -2);
@@ -616,7 +597,7 @@ public final class PromiseTest {
 
     private static void ofGroup() {
         promise = 20;
-        ClockPlanner x = gated(0, 3);
+        ClockPlanner x = Plans.gated(0, 3);
         x.add(0, 3, 1);
         x.leaf(5, 0, 0, 0, 1);
         x.set(6, 0, 99);
@@ -646,7 +627,7 @@ public final class PromiseTest {
 
     private static void power() {
         promise = 21;
-        ClockPlanner x = gated(2, 1);
+        ClockPlanner x = Plans.gated(2, 1);
         x.add(1, 1, 3);
         x.set(3, 1, 2);
         x.set(2, 1, 9);
@@ -791,7 +772,7 @@ public final class PromiseTest {
         due("nodes", x.count(0), 2);
         due("back()", x.back(), 0);
         due("nodes", x.count(0), 1);
-        ClockPlanner gone = gated(0, 1);
+        ClockPlanner gone = Plans.gated(0, 1);
         gone.remove(2);
         due("back()", gone.back(), 2);
         due("the leaf is there again", gone.ofLeaf(2, 1), 4000000);
@@ -811,7 +792,7 @@ public final class PromiseTest {
 
     private static void undo() {
         promise = 27;
-        ClockPlanner x = gated(2, 2);
+        ClockPlanner x = Plans.gated(2, 2);
         due("none", x.undo(), -3);
         due("that has no reason", x.reason(), -5);
         x.limit(0, 7);
@@ -903,7 +884,7 @@ public final class PromiseTest {
 
     private static void nothingIsLeftOfRemoved() {
         promise = 9;
-        ClockPlanner x = gated(0, 2);
+        ClockPlanner x = Plans.gated(0, 2);
         x.set(2, 0, 50);
         x.limit(0, 10);
         x.set(2, 1, 9);

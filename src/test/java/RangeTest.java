@@ -189,6 +189,11 @@ public final class RangeTest {
     private static void bytes() {
         check.says("the number of bytes, 1 to 5");
         range("feed of n", (x, v) -> x.feed(v, 48, 48, 48, 48, 48), 1, 5, BAD);
+        check.says("a byte, 0 to 127");
+        for (int b = -3; b <= 131; b++) {
+            ClockPlanner x = new ClockPlanner();
+            check.due("feed of " + b, x.feed(1, b, 0, 0, 0, 0), b < 0 || b > 127 ? BAD : 1);
+        }
         check.says("BAD if n or any of the bytes is out of range, also of those that are not appended");
         for (int count = 1; count <= 5; count++) {
             int n = count;

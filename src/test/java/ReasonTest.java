@@ -9,6 +9,9 @@ public final class ReasonTest {
 
     public static void main(String[] args) {
         eachReason();
+        tooDeep();
+        tooFast();
+        eachError();
         addInOrder();
         addNoneFirst();
         leafInOrder();
@@ -86,6 +89,56 @@ public final class ReasonTest {
             x.limit(0, 0);
         }, x -> x.mend(0), 8);
         twins.refused("9", x -> x.set(0, 1, 1), x -> x.shed(999), 9);
+    }
+
+    private static void tooDeep() {
+        check.says("2 a depth would be greater than 6");
+        for (int parent = 0; parent <= 6; parent++) {
+            ClockPlanner x = Twins.made(Plans::chain);
+            long due = parent < 6 ? 7 : STATE;
+            check.due("add below " + parent, x.add(parent, 1, 2), due);
+            ClockPlanner y = Twins.made(Plans::chain);
+            check.due("leaf below " + parent, y.leaf(parent, 0, 0, 0, 1), due);
+            ClockPlanner z = Twins.made(Plans::chain);
+            check.due("path below " + parent, Check.lay(z, parent + "/2"), parent < 6 ? 1 : -201);
+            int reason = parent < 6 ? -5 : 2;
+            check.due("reason of add", x.reason(), reason);
+            check.due("reason of leaf", y.reason(), reason);
+            check.due("reason of lay", z.reason(), reason);
+        }
+    }
+
+    private static void tooFast() {
+        check.says("5 a rate would be greater than 4000000");
+        for (int number = 1; number <= 9; number++) {
+            int most = Math.min(1000000, 4000000 / number);
+            int factor = number;
+            Twins.Calls tree = x -> {
+                x.source(most);
+                x.add(0, 2, factor);
+            };
+            check.due("at most 4000000", Twins.made(tree).rate(1, 0), (long) most * number);
+            if (most < 1000000) {
+                twins.refused("source of one more", tree, x -> x.source(most + 1), 5);
+                twins.refused("add of one more", x -> x.source(most + 1), x -> x.add(0, 2, factor), 5);
+                twins.refusedPart("0*" + number, x -> x.source(most + 1), 1, 5);
+                twins.refused("tune to one more", x -> {
+                    x.source(most + 1);
+                    x.add(0, 2, 1);
+                }, x -> x.tune(1, factor), 5);
+            }
+        }
+    }
+
+    private static void eachError() {
+        check.says("NONE means that a number or selector is invalid, STATE that the call is refused for a reason or that "
+                + "the state forbids it, BAD that a value is out of range, and FULL that a limit is reached.");
+        twins.error("a selector", Plans::rich, x -> x.count(3), NONE);
+        twins.error("a number", Plans::rich, x -> x.power(8), NONE);
+        twins.refused("a refusal", Plans::rich, x -> x.set(8, 0, 0), 1);
+        twins.error("a state", ReasonTest::fast, ClockPlanner::undo, STATE);
+        twins.error("a value", Plans::rich, x -> x.limit(0, 1000), BAD);
+        twins.error("a limit", x -> Check.feed(x, "0".repeat(40)), x -> x.feed(1, 48, 48, 48, 48, 48), FULL);
     }
 
     private static void addInOrder() {
@@ -368,7 +421,7 @@ public final class ReasonTest {
     }
 
     private static void latestReason() {
-        check.says("Returns the reason of the latest refusal.");
+        check.says("Returns the reason, -5 if there was none.");
         ClockPlanner x = new ClockPlanner();
         check.due("there was none", x.reason(), -5);
         x.set(0, 1, 1);

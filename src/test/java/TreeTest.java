@@ -150,6 +150,7 @@ public final class TreeTest {
         check.due("node(1, 0)", x.node(1, 0), -1);
         check.due("count(0)", x.count(0), 1);
         check.due("wouldShed(0)", x.wouldShed(0), 0);
+        check.says("Creates a tree with the source alone.");
         int[] accounts = {1, 0, 0, 0, 0, 0, 1, 0, 0, 0, 0, 0};
         for (int what = 0; what < accounts.length; what++) {
             check.due("account(" + what + ")", x.account(what), accounts[what]);

@@ -4,6 +4,7 @@ public final class WayTest {
     private static final Twins twins = new Twins(check);
 
     public static void main(String[] args) {
+        numbersOfAWay();
         noNewOnes();
         oneNewOne();
         numbersFrom2To9();
@@ -39,6 +40,20 @@ public final class WayTest {
         ClockPlanner x = new ClockPlanner();
         x.source(rate);
         return x;
+    }
+
+    private static void numbersOfAWay() {
+        check.says("0 the number of new ones; 1 the node from which it goes; 2, 3 the first and the second new one, as "
+                + "each counts, -5 without one");
+        ClockPlanner x = new ClockPlanner();
+        x.add(0, 1, 7);
+        wayIs(x, 1000, 7, 0, 1, -5, -5);
+        wayIs(x, 1000, 63, 1, 1, 9, -5);
+        wayIs(x, 9000, 7, 1, 1, 19, -5);
+        wayIs(x, 9000, 77, -5, -5, -5, -5);
+        wayIs(x, 1000, 567, 2, 1, 9, 9);
+        wayIs(x, 81000, 7, 2, 1, 19, 19);
+        wayIs(x, 2000, 63, 2, 1, 9, 12);
     }
 
     private static void noNewOnes() {
