@@ -1,15 +1,23 @@
+import java.util.ArrayList;
+import java.util.List;
 import java.util.Random;
 
 /** Random runs of calls, the same ones each time, on the class and on the model side by side. */
 public final class ModelTest {
-    private static final int RUNS = 40;
+    private static final int RUNS = 60;
+    private static final int TURNS = 512;
+    /** What an object is used for: behind that the document leaves the answers free. */
     private static final int CALLS = 512;
+    private static final int MOST_ACTS = 400;
 
     private final Check check;
     private final Random random;
-    private final ClockPlanner x = new ClockPlanner();
     private final Model m = new Model();
     private final String name;
+    /** The calls so far that may have changed something, to bring a new planner to the same state. */
+    private final List<Twins.Call> acts = new ArrayList<>();
+    private ClockPlanner planner = new ClockPlanner();
+    private int used = 0;
 
     private ModelTest(Check check, int run) {
         this.check = check;
@@ -26,8 +34,21 @@ public final class ModelTest {
         check.end();
     }
 
+    /** The planner for one call more: a new one in the same state if the last one is used up. */
+    private ClockPlanner x() {
+        if (used == CALLS) {
+            planner = new ClockPlanner();
+            for (Twins.Call act : acts) {
+                act.on(planner);
+            }
+            used = acts.size();
+        }
+        used++;
+        return planner;
+    }
+
     private void go(int run) {
-        for (int call = 0; call < CALLS && check.allRight(); call++) {
+        for (int call = 0; call < TURNS && acts.size() < MOST_ACTS && check.allRight(); call++) {
             // Some runs grow quickly, others change and undo a lot.
             if (random.nextInt(100) < (run % 3 == 0 ? 70 : 50)) {
                 change(call);
@@ -36,35 +57,36 @@ public final class ModelTest {
             } else {
                 ask(call);
             }
-            check.due(name + call + ": reason", x.reason(), m.reason());
-            check.due(name + call + ": count", x.count(call % 3), m.count(call % 3));
+            check.due(name + call + ": reason", x().reason(), m.reason());
+            check.due(name + call + ": count", x().count(call % 3), m.count(call % 3));
             if (call % 64 == 63) {
                 compareAll(call);
             }
         }
+        compareAll(TURNS);
     }
 
     /** Gates within gates, with loads on all, so that budgets have many sets of leaves to choose from. */
     private void shedding() {
         for (int i = 0; i < 6; i++) {
             int parent = random.nextInt(m.count(0)), rule = any(0, 2, 2, 3, 4, 4);
-            same(i, "add", x.add(parent, 3, rule), m.add(parent, 3, rule));
+            acts(i, "add", y -> y.add(parent, 3, rule), m.add(parent, 3, rule));
         }
         int gates = m.count(0);
         for (int i = 0; i < 9; i++) {
             int parent = 1 + random.nextInt(gates - 1), priority = 1 + random.nextInt(4);
-            same(i, "leaf", x.leaf(parent, 0, 0, 0, priority), m.leaf(parent, 0, 0, 0, priority));
+            acts(i, "leaf", y -> y.leaf(parent, 0, 0, 0, priority), m.leaf(parent, 0, 0, 0, priority));
         }
         for (int n = 0; n < m.count(0); n++) {
-            int load = random.nextInt(10);
-            same(n, "set", x.set(n, 1, load), m.set(n, 1, load));
+            int node = n, load = random.nextInt(10);
+            acts(n, "set", y -> y.set(node, 1, load), m.set(node, 1, load));
         }
         for (int i = 0; i < 4; i++) {
             int budget = (int) (m.power(-1) * random.nextInt(100) / 100);
-            same(i, "wouldShed", x.wouldShed(budget), m.wouldShed(budget));
+            same(i, "wouldShed", x().wouldShed(budget), m.wouldShed(budget));
         }
         int budget = (int) (m.power(-1) * (60 + random.nextInt(40)) / 100);
-        same(0, "shed", x.shed(budget), m.shed(budget));
+        acts(0, "shed", y -> y.shed(budget), m.shed(budget));
         compareAll(0);
     }
 
@@ -130,46 +152,51 @@ public final class ModelTest {
         check.due(name + call + ": " + what, got, want);
     }
 
+    private void acts(int call, String what, Twins.Call act, long want) {
+        same(call, what, act.on(x()), want);
+        acts.add(act);
+    }
+
     private void change(int call) {
         switch (random.nextInt(16)) {
             case 0 -> {
                 int rate = sourceRate();
-                same(call, "source " + rate, x.source(rate), m.source(rate));
+                acts(call, "source " + rate, y -> y.source(rate), m.source(rate));
             }
             case 1, 2, 3 -> {
-                int parent = node(), kind = between(1, 4), number = kind == 4 ? between(0, 99) : between(0, 9);
-                number = kind == 3 ? between(0, 4) : number;
-                same(call, "add", x.add(parent, kind, number), m.add(parent, kind, number));
+                int parent = node(), kind = between(1, 4);
+                int number = between(0, kind == 4 ? 99 : kind == 3 ? 4 : 9);
+                acts(call, "add", y -> y.add(parent, kind, number), m.add(parent, kind, number));
             }
             case 4, 5 -> {
                 int parent = node(), group = between(0, 3), a = bound(), b = bound(), priority = between(1, 9);
                 int low = random.nextInt(20) == 0 ? Math.max(a, b) : Math.min(a, b), high = a + b - low;
-                same(call, "leaf", x.leaf(parent, group, low, high, priority),
+                acts(call, "leaf", y -> y.leaf(parent, group, low, high, priority),
                         m.leaf(parent, group, low, high, priority));
             }
             case 6, 7, 8 -> {
                 int node = node(), what = between(0, 1), value = between(0, what == 0 ? 99 : 9);
-                same(call, "set", x.set(node, what, value), m.set(node, what, value));
+                acts(call, "set", y -> y.set(node, what, value), m.set(node, what, value));
             }
             case 9 -> {
                 int node = node(), number = between(0, 9);
-                same(call, "tune", x.tune(node, number), m.tune(node, number));
+                acts(call, "tune", y -> y.tune(node, number), m.tune(node, number));
             }
             case 10, 11 -> {
                 int node = leafNode(), is = between(0, 1);
-                same(call, "request", x.request(node, is), m.request(node, is));
+                acts(call, "request", y -> y.request(node, is), m.request(node, is));
             }
             case 12 -> {
                 int group = between(0, 3), limit = random.nextInt(3) > 0 ? random.nextInt(60) : between(0, 999);
-                same(call, "limit", x.limit(group, limit), m.limit(group, limit));
+                acts(call, "limit", y -> y.limit(group, limit), m.limit(group, limit));
             }
             case 13 -> {
                 int node = node();
-                same(call, "remove", x.remove(node), m.remove(node));
+                acts(call, "remove", y -> y.remove(node), m.remove(node));
             }
             case 14 -> {
                 int group = between(0, 3);
-                same(call, "mend", x.mend(group), m.mend(group));
+                acts(call, "mend", y -> y.mend(group), m.mend(group));
             }
             default -> seldomChange(call);
         }
@@ -179,18 +206,18 @@ public final class ModelTest {
         switch (random.nextInt(6)) {
             case 0, 1 -> {
                 int budget = budget();
-                same(call, "shed", x.shed(budget), m.shed(budget));
+                acts(call, "shed", y -> y.shed(budget), m.shed(budget));
             }
-            case 2 -> same(call, "image", x.image(), m.image());
+            case 2 -> acts(call, "image", ClockPlanner::image, m.image());
             case 3 -> {
                 if (random.nextInt(3) == 0) {
-                    same(call, "undo", x.undo(), m.undo());
+                    acts(call, "undo", ClockPlanner::undo, m.undo());
                 }
             }
             default -> {
                 int times = random.nextInt(8);
                 for (int i = 0; i < times; i++) {
-                    same(call, "back", x.back(), m.back());
+                    acts(call, "back", ClockPlanner::back, m.back());
                 }
             }
         }
@@ -204,14 +231,15 @@ public final class ModelTest {
             for (int i = 0; i < n; i++) {
                 b[i] = text.charAt(from + i);
             }
-            if (random.nextInt(60) == 0) {
+            boolean wrong = random.nextInt(60) == 0;
+            if (wrong) {
                 b[random.nextInt(5)] = any(-1, 128, 65536 + 48);
-                n = between(1, 5);
             }
-            same(call, "feed", x.feed(n, b[0], b[1], b[2], b[3], b[4]), m.feed(n, b));
+            int bytes = wrong ? between(1, 5) : n;
+            acts(call, "feed", y -> y.feed(bytes, b[0], b[1], b[2], b[3], b[4]), m.feed(bytes, b));
         }
         if (random.nextInt(20) > 0) {
-            same(call, "lay of " + text, x.lay(), m.lay());
+            acts(call, "lay of " + text, ClockPlanner::lay, m.lay());
         }
     }
 
@@ -256,42 +284,42 @@ public final class ModelTest {
         switch (random.nextInt(10)) {
             case 0 -> {
                 int node = node(), part = between(0, 1);
-                same(call, "rate", x.rate(node, part), m.rate(node, part));
-                same(call, "again", x.again(node, part), m.rate(node, part));
+                same(call, "rate", x().rate(node, part), m.rate(node, part));
+                same(call, "again", x().again(node, part), m.rate(node, part));
             }
             case 1 -> {
                 int node = node(), what = between(0, 10);
-                same(call, "node", x.node(node, what), m.node(node, what));
+                same(call, "node", x().node(node, what), m.node(node, what));
             }
             case 2 -> {
                 int node = leafNode(), what = between(0, 5);
-                same(call, "ofLeaf", x.ofLeaf(node, what), m.ofLeaf(node, what));
+                same(call, "ofLeaf", x().ofLeaf(node, what), m.ofLeaf(node, what));
             }
             case 3 -> {
                 int group = between(0, 3), what = between(0, 6);
-                same(call, "ofGroup", x.ofGroup(group, what), m.ofGroup(group, what));
+                same(call, "ofGroup", x().ofGroup(group, what), m.ofGroup(group, what));
             }
             case 4 -> {
                 int node = node();
-                same(call, "power", x.power(node), m.power(node));
-                same(call, "power of all", x.power(-1), m.power(-1));
+                same(call, "power", x().power(node), m.power(node));
+                same(call, "power of all", x().power(-1), m.power(-1));
             }
             case 5 -> askWay(call);
             case 6 -> {
                 int i = between(0, 23);
-                same(call, "ranked", x.ranked(i), m.ranked(i));
+                same(call, "ranked", x().ranked(i), m.ranked(i));
             }
             case 7 -> {
                 int what = between(0, 11);
-                same(call, "account", x.account(what), m.account(what));
+                same(call, "account", x().account(what), m.account(what));
             }
             case 8 -> {
                 int budget = budget();
-                same(call, "wouldShed " + budget, x.wouldShed(budget), m.wouldShed(budget));
+                same(call, "wouldShed " + budget, x().wouldShed(budget), m.wouldShed(budget));
             }
             default -> {
                 int what = between(0, 2);
-                same(call, "count", x.count(what), m.count(what));
+                same(call, "count", x().count(what), m.count(what));
             }
         }
     }
@@ -312,7 +340,7 @@ public final class ModelTest {
         }
         for (int what = 0; what < 4; what++) {
             int w = random.nextInt(50) == 0 ? any(-1, 4) : what;
-            same(call, "way " + above + " " + below, x.way((int) above, (int) below, w),
+            same(call, "way " + above + " " + below, x().way((int) above, (int) below, w),
                     m.way((int) above, (int) below, w));
         }
     }
@@ -320,18 +348,18 @@ public final class ModelTest {
     private void compareAll(int call) {
         for (int n = -2; n < 25; n++) {
             for (int what = -1; what < 12; what++) {
-                same(call, "node " + n + " " + what, x.node(n, what), m.node(n, what));
-                same(call, "ofLeaf " + n + " " + what, x.ofLeaf(n, what), m.ofLeaf(n, what));
-                same(call, "ofGroup " + n + " " + what, x.ofGroup(n, what), m.ofGroup(n, what));
+                same(call, "node " + n + " " + what, x().node(n, what), m.node(n, what));
+                same(call, "ofLeaf " + n + " " + what, x().ofLeaf(n, what), m.ofLeaf(n, what));
+                same(call, "ofGroup " + n + " " + what, x().ofGroup(n, what), m.ofGroup(n, what));
             }
             for (int part = -1; part < 3; part++) {
-                same(call, "rate " + n, x.rate(n, part), m.rate(n, part));
-                same(call, "again " + n, x.again(n, part), m.rate(n, part));
+                same(call, "rate " + n, x().rate(n, part), m.rate(n, part));
+                same(call, "again " + n, x().again(n, part), m.rate(n, part));
             }
-            same(call, "power " + n, x.power(n), m.power(n));
-            same(call, "ranked " + n, x.ranked(n), m.ranked(n));
-            same(call, "account " + n, x.account(n), m.account(n));
-            same(call, "count " + n, x.count(n), m.count(n));
+            same(call, "power " + n, x().power(n), m.power(n));
+            same(call, "ranked " + n, x().ranked(n), m.ranked(n));
+            same(call, "account " + n, x().account(n), m.account(n));
+            same(call, "count " + n, x().count(n), m.count(n));
         }
     }
 }
